@@ -146,11 +146,10 @@ public final class HillLayers {
             return NONE;
         }
         int place = rock.placeOf(surface, column);
-        int ground = grounds[column];
-        if (end(place, GREATEST) < ground) {
+        if (end(place, GREATEST) < grounds[column]) {
             return 2;
         }
-        return end(place, LEAST) < ground ? 1 : 0;
+        return end(place, LEAST) < grounds[column] ? 1 : 0;
     }
 
     public int tells(int surface, int column) {
@@ -195,23 +194,23 @@ public final class HillLayers {
     }
 
     public int told(int sight, int what) {
-        Sight told = sights.at(sight);
-        if (told == null) {
+        Sight asked = sights.at(sight);
+        if (asked == null) {
             return NO_ANSWER;
         }
         switch (what) {
             case 0:
-                return told.surface();
+                return asked.surface();
             case 1:
-                return told.column();
+                return asked.column();
             case 2:
-                return told.kind();
+                return asked.kind();
             case 3:
-                return told.z();
+                return asked.z();
             case 4:
-                return told.miss();
+                return asked.miss();
             case 5:
-                return bodies.areSome() ? bodies.leftOut() >> sight & 1 : NO_ANSWER;
+                return bodies.areSome() ? (bodies.leftOut() >> sight) & 1 : NO_ANSWER;
             default:
                 return NO_ANSWER;
         }
@@ -306,35 +305,33 @@ public final class HillLayers {
             return most(TOP, place);
         }
 
-        /** Tells that a place is so much deeper than another; false if no body is left then. */
+        /** Tells how much deeper 'to' is than 'from'; false, and nothing told, if no body is left. */
         boolean hold(int from, int to, int least, int greatest) {
-            return narrow(from, to, greatest) && narrow(to, from, -least);
-        }
-
-        private boolean narrow(int from, int to, int width) {
-            if (!isPlace(from) || !isPlace(to) || width < -most(to, from)) {
+            if (!isPlace(from) || !isPlace(to) || least > greatest) {
                 return false;
             }
-            if (width >= most(from, to)) {
-                return true;
+            if (greatest < -widths[to * size + from] || least > widths[from * size + to]) {
+                return false;
+            }
+            narrow(from, to, greatest);
+            narrow(to, from, -least);
+            return true;
+        }
+
+        /** Only for places that hold has tested: so the narrowed gaps stay what bodies can reach. */
+        private void narrow(int from, int to, int width) {
+            if (width >= widths[from * size + to]) {
+                return;
             }
             for (int start = 0; start < size; start++) {
                 int reach = widths[start * size + from] + width;
                 // A start that comes no nearer to 'to' comes no nearer to any place behind it.
-                if (reach < widths[start * size + to]) {
-                    narrowRow(start, to, reach);
+                if (reach >= widths[start * size + to]) {
+                    continue;
                 }
-            }
-            return true;
-        }
-
-        private void narrowRow(int start, int over, int reach) {
-            int row = start * size;
-            int overRow = over * size;
-            for (int end = 0; end < size; end++) {
-                int width = reach + widths[overRow + end];
-                if (width < widths[row + end]) {
-                    widths[row + end] = width;
+                for (int end = 0; end < size; end++) {
+                    int through = reach + widths[to * size + end];
+                    widths[start * size + end] = Math.min(widths[start * size + end], through);
                 }
             }
         }
@@ -551,8 +548,7 @@ public final class HillLayers {
                 case NOT_MORE:
                     return gaps.hold(Gaps.TOP, place, 0, z);
                 default:
-                    int beside = rock.placeOf(surface, column + 1);
-                    return gaps.hold(place, beside, z - miss, z + miss);
+                    return gaps.hold(place, rock.placeOf(surface, column + 1), z - miss, z + miss);
             }
         }
     }
@@ -603,8 +599,8 @@ public final class HillLayers {
     private static final class Bodies {
         private final Rock rock;
         private final Sights sights;
-        /** steps[n] is what holds when all sights from number n up are decided, and none below. */
-        private final Gaps[] steps = new Gaps[MOST_SIGHTS + 1];
+        /** steps[n] is what holds with sight n and those kept of the higher ones, and none below. */
+        private final Gaps[] steps = new Gaps[MOST_SIGHTS];
         private final Gaps withoutSights;
         private final Gaps agreed;
         private boolean rockIsBound = false;
@@ -653,37 +649,38 @@ public final class HillLayers {
             return agreed;
         }
 
+        /** At first all sights are out: that leaves a body, for there is a hill. */
         private void findQuarrel() {
-            int undecided = Math.min(sights.came(), MOST_SIGHTS);
             leftOut = sights.heap();
             agreed.copyFrom(withoutSights);
-            steps[undecided].copyFrom(withoutSights);
-            decide(this, undecided, 0);
+            decide(this, withoutSights, Math.min(sights.came(), steps.length), 0);
         }
 
         /**
          * Decides the sights below a number, the highest first and each kept before it is left
          * out: so the heaps come in rising order, and the first of the fewest is the least one.
          */
-        private static void decide(Bodies bodies, int undecided, int out) {
+        private static void decide(Bodies bodies, Gaps decided, int undecided, int out) {
             if (Integer.bitCount(out) >= Integer.bitCount(bodies.leftOut)) {
                 return;
             }
-            if (undecided <= 0 || undecided > MOST_SIGHTS) {
+            if (undecided > bodies.steps.length) {
+                return;
+            }
+            if (undecided <= 0) {
                 bodies.leftOut = out;
-                bodies.agreed.copyFrom(bodies.steps[0]);
+                bodies.agreed.copyFrom(decided);
                 return;
             }
             int number = undecided - 1;
-            Gaps step = bodies.steps[number];
-            step.copyFrom(bodies.steps[undecided]);
             Sight sight = bodies.sights.at(number);
+            Gaps step = bodies.steps[number];
+            step.copyFrom(decided);
             if (sight == null || sight.bind(step, bodies.rock)) {
-                decide(bodies, number, out);
+                decide(bodies, step, number, out);
             }
             if (sight != null) {
-                step.copyFrom(bodies.steps[undecided]);
-                decide(bodies, number, out | 1 << number);
+                decide(bodies, decided, number, out | 1 << number);
             }
         }
     }
