@@ -268,12 +268,13 @@ public final class HillLayers {
      */
     private static final class Gaps {
         static final int TOP = 0;
+        private static final int MOST_PLACES = 32;
 
         private final int size;
         private final int[] widths;
 
         Gaps(int places) {
-            size = Math.max(places, 0) + 1;
+            size = Math.max(0, Math.min(places, MOST_PLACES)) + 1;
             widths = new int[size * size];
         }
 
@@ -576,7 +577,7 @@ public final class HillLayers {
         }
 
         Sight at(int number) {
-            return number >= 0 && number < came ? byNumber[number] : null;
+            return number >= 0 && number < byNumber.length ? byNumber[number] : null;
         }
 
         int came() {
