@@ -254,8 +254,9 @@ public final class HillLayers {
 
     private int gain(int place) {
         Gaps gaps = bodies.agreed();
+        int greatest = gaps.greatest(place);
         int stillOpen = 0;
-        for (int depth = gaps.least(place); depth <= gaps.greatest(place); depth++) {
+        for (int depth = gaps.least(place); depth <= greatest; depth++) {
             stillOpen = Math.max(stillOpen, gaps.openSumAfterBore(place, depth));
         }
         return gaps.openSum() - stillOpen;

@@ -9,9 +9,11 @@ import java.util.ArrayList;
 import java.util.IdentityHashMap;
 import java.util.List;
 import java.util.TreeSet;
+import java.util.regex.Matcher;
+import java.util.regex.Pattern;
 
-// The class's face, the words that LANGUAGE.md rules out, arguments as far out as an int goes,
-// and how much one object holds.
+// The class's face, what LANGUAGE.md rules out as far as the source and the compiled class show it,
+// arguments as far out as an int goes, and how much one object holds.
 public final class FaceTest {
   private static final int[] FAR = {-2147483648, -2147483647, -1000, -101, -61, -1, 0, 1, 3, 7, 8, 9, 10, 11, 31, 37,
       60, 61, 73, 100, 363, 370, 400, 2147483600, 2147483646, 2147483647};
@@ -54,6 +56,55 @@ public final class FaceTest {
     }
     hold("the source has a lambda or a method reference", !code.contains("->") && !code.contains("::"));
     hold("the source has a sign above 127", source.chars().allMatch(sign -> sign < 128));
+  }
+
+  /** Rules 1, 2, 5 and 11, of the class and of those inside it. */
+  private static void classes() {
+    TreeSet<String> publicNames = new TreeSet<>();
+    for (Method m : HillLayers.class.getDeclaredMethods()) if (Modifier.isPublic(m.getModifiers())) publicNames.add(m.getName());
+    List<Class<?>> all = new ArrayList<>(List.of(HillLayers.class.getDeclaredClasses()));
+    hold("at most some twelve classes", all.size() < 12);
+    for (Class<?> c : all) {
+      hold(c + " is to be static", Modifier.isStatic(c.getModifiers()));
+      hold(c + " is to be private or package-visible", !Modifier.isPublic(c.getModifiers()) && !Modifier.isProtected(c.getModifiers()));
+    }
+    all.add(HillLayers.class);
+    for (Class<?> c : all) {
+      int fields = 0;
+      for (Field f : c.getDeclaredFields()) {
+        if (!Modifier.isStatic(f.getModifiers())) fields++;
+        else hold(f + " is to be a constant", Modifier.isFinal(f.getModifiers()) && (f.getType().isPrimitive() || f.getType() == String.class));
+      }
+      hold(c + " has " + fields + " fields", fields <= 20);
+      for (Constructor<?> maker : c.getDeclaredConstructors()) hold(maker + " takes too much", maker.getParameterCount() <= 7);
+      for (Method m : c.getDeclaredMethods()) {
+        hold(m + " takes too much", m.getParameterCount() <= 7);
+        hold(m + " bears the name of a public one", !Modifier.isPrivate(m.getModifiers()) || !publicNames.contains(m.getName()));
+        hold(m + " was made by the compiler", !m.isSynthetic());
+      }
+    }
+  }
+
+  /** Rules 4 and 11: the library's calls, and how long a method is. */
+  private static void source() throws Exception {
+    List<String> allowed = List.of("Math.max", "Math.min", "Math.abs", "Integer.bitCount", "System.arraycopy");
+    int started = 0;
+    String indent = null;
+    List<String> lines = Files.readAllLines(Path.of("src/main/java/HillLayers.java"));
+    for (int i = 0; i < lines.size(); i++) {
+      String line = lines.get(i);
+      Matcher called = Pattern.compile("\\b([A-Z]\\w*\\.\\w+)\\(").matcher(line);
+      while (called.find()) hold("line " + (i + 1) + " calls " + called.group(1), allowed.contains(called.group(1)));
+      String blanks = line.substring(0, line.length() - line.stripLeading().length());
+      if (indent == null && line.matches("( {4}){1,2}[^=*]*\\) \\{") && !line.matches(" *(if|for|while|switch) .*")) {
+        indent = blanks;
+        started = i;
+      } else if (line.equals(indent + "}")) {
+        hold("the method of line " + (started + 1) + " has " + (i - started + 1) + " lines", i - started < 60);
+        indent = null;
+      }
+    }
+    hold("a method without an end", indent == null);
   }
 
   private static void askAll(HillLayers x) {
@@ -151,6 +202,8 @@ public final class FaceTest {
   public static void main(String[] args) throws Exception {
     face();
     words();
+    classes();
+    source();
     farArguments();
     room();
     System.out.println(wrong == 0 ? "the face is as due" : wrong + " things are not as due");
